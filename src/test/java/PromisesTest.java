@@ -95,6 +95,7 @@ public final class PromisesTest {
         Due.due("4: x0 stays", 0, x.get(0));
         for (int n : new int[] {-1, 32, 33, 63, 64, MIN, MAX}) {
             Due.due("4: put(" + n + ")", 0, x.put(n, 5));
+            Due.due("4: put(" + n + ") again", 0, x.put(n, 6));
         }
         for (int n = 1; n < 32; n++) {
             Due.due("4: x" + n + " is not changed", MIN + n, x.get(n));
